@@ -70,7 +70,7 @@ public final class VanShows {
     private final Law law = new Law();
     private final Reader reader = new Reader(tape);
     private final Notes notes = new Notes();
-    private final Course course = new Course(land, fleet, law, eggPrices);
+    private final Course course = new Course(land, fleet, row, law, eggPrices);
     private final Search search = new Search(land, fleet, course);
     private int taped;
 
@@ -590,8 +590,9 @@ public final class VanShows {
         }
 
         private void takeHands(Row from) {
+            int all = from.hands;
             hands = 0;
-            for (int i = 0; i < from.hands; i++) {
+            for (int i = 0; i < all; i++) {
                 addHand(from.handNights[i], from.handPrints[i], from.handVans[i]);
             }
         }
@@ -628,9 +629,10 @@ public final class VanShows {
         private int tourMinutes;
         private int tourShows;
 
-        private Course(Land land, Fleet fleet, Law law, int[] eggPrices) {
+        private Course(Land land, Fleet fleet, Row row, Law law, int[] eggPrices) {
             this.land = land;
             this.fleet = fleet;
+            this.row = row;
             this.law = law;
             this.eggPrices = eggPrices;
         }
@@ -638,12 +640,13 @@ public final class VanShows {
         private void goThrough(Row asked, int shut) {
             row = asked;
             begin();
-            for (night = 0; night < NIGHTS; night++) {
-                shutTonight = shut >> (MOST_PASSES * night) & 3;
+            for (int n = 0; n < NIGHTS; n++) {
+                night = n;
+                shutTonight = shut >> (MOST_PASSES * n) & 3;
                 villagesShown = 0;
                 handOn();
                 for (int van = 0; van < fleet.vans; van++) {
-                    if (row.hasPlan(night, van)) {
+                    if (row.hasPlan(n, van)) {
                         tour(van);
                     }
                 }
@@ -866,9 +869,9 @@ public final class VanShows {
             trial.takeOthers(row, van);
             trial.takeHands(row);
             int others = trial.entries;
-            rows = rowsFor(nights);
+            int all = rowsFor(nights);
             // the rows come in the order in which the first of several equals is the best one
-            for (int number = 0; number < rows; number++) {
+            for (int number = 0; number < all; number++) {
                 choose(number, nights);
                 layTrial(others, van);
                 course.goThrough(trial, 0);
@@ -876,6 +879,7 @@ public final class VanShows {
                     keep();
                 }
             }
+            rows = all;
         }
 
         /** A row's number is read as digits, one for each night, the first night's the highest. */
@@ -1450,11 +1454,9 @@ public final class VanShows {
             }
             int rank = Kind.rank(kind);
             writeWaiting(rank);
-            if (rank == Kind.COMPARING) {
-                // two comparisons in a row have no brackets that say which is first
-                if (waitingSize > 0 && Kind.rank(waiting[waitingSize - 1]) == rank) {
-                    return failed(CANNOT_STAND);
-                }
+            // only a comparison still waits behind a sign of its own rank: the language has no two in a row
+            if (waitingSize > 0 && Kind.rank(waiting[waitingSize - 1]) == rank) {
+                return failed(CANNOT_STAND);
             }
             return countKnot() && putWaiting(kind);
         }

@@ -123,6 +123,19 @@ public final class ChanceTest {
         Check.due("second night: print 1", x.rounded(2), 1);
     }
 
+    private static void rows(int villages, int prints, int n, int due) {
+        VanShows x = new VanShows();
+        for (int i = 0; i < villages; i++) {
+            x.village(1, 1, 0, 0);
+        }
+        x.van(0);
+        for (int i = 0; i < prints; i++) {
+            x.print(0, 0, 10, 0, 0, 4, 0);
+        }
+        Check.due("round over " + n + " nights", x.round(0, n), due == -1 ? -1 : 0);
+        Check.due("rows", x.rounded(4), due == -1 ? MIN : due);
+    }
+
     /** Of as many heads the greater profit, though it comes later by order. */
     private static void profit() {
         VanShows x = new VanShows();
@@ -145,6 +158,10 @@ public final class ChanceTest {
         roundAmongOthers();
         spent();
         profit();
+        rows(3, 3, 3, 1000);
+        rows(5, 2, 3, -1);
+        rows(5, 2, 2, 121);
+        rows(8, 4, 1, 33);
         Check.end();
     }
 }

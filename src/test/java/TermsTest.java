@@ -57,6 +57,10 @@ public final class TermsTest {
         Check.faulty(x, "Night 60;", 1, 0);
         Check.faulty(x, "nights 60;", 1, 0);
         Check.faulty(x, "nigh 60;", 1, 0);
+        Check.faulty(x, "pricez 1;", 1, 0);
+        Check.faulty(x, "aprice 1;", 1, 0);
+        Check.faulty(x, "price`1;", 1, 5);
+        Check.faulty(x, "price{1;", 1, 5);
         Check.faulty(x, "night 60", 1, 8);
         Check.faulty(x, "night 60   ", 1, 11);
         Check.faulty(x, "night", 1, 5);
