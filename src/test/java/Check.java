@@ -4,20 +4,48 @@ import java.nio.charset.StandardCharsets;
 final class Check {
     private static int wrong = 0;
     private static int asked = 0;
+    private static String sentence = "";
+
+    /** One call, with the number that is tried. */
+    interface Tried {
+        long with(int number);
+    }
 
     private Check() {
+    }
+
+    /** The document's words that the answers from here on are due to; Quotes reads them off the test's text. */
+    static void says(String words) {
+        sentence = words;
     }
 
     static void due(String call, long got, long want) {
         asked++;
         if (got != want) {
             wrong++;
-            System.out.println(call + " answered " + got + ", due is " + want);
+            System.out.println(call + " answered " + got + ", due is " + want
+                + (sentence.isEmpty() ? "" : " by '" + sentence + "'"));
         }
     }
 
     static void due(String call, boolean got, boolean want) {
         due(call, got ? 1 : 0, want ? 1 : 0);
+    }
+
+    static int bit(boolean holds) {
+        return holds ? 1 : 0;
+    }
+
+    /** Both ends of a range are taken, and what is beside them is not, however far. */
+    static void range(String what, int least, int most, long taken, long refused, Tried call) {
+        int[] within = {least, Math.min(least + 1, most), Math.max(most - 1, least), most};
+        int[] beyond = {Integer.MIN_VALUE, least - 1, most + 1, Integer.MAX_VALUE};
+        for (int n : within) {
+            due(what + " " + n, call.with(n), taken);
+        }
+        for (int n : beyond) {
+            due(what + " " + n, call.with(n), refused);
+        }
     }
 
     /** Ends the test: exit code 1 if an answer was not the due one, or none was asked for. */

@@ -32,6 +32,15 @@ public final class FaceTest {
             + ")" + (thrown.isEmpty() ? "" : " throws " + thrown);
     }
 
+    /** Those beside its constants. */
+    private static int ownFields(Class<?> type) {
+        int fields = 0;
+        for (Field field : type.getDeclaredFields()) {
+            fields += Modifier.isStatic(field.getModifiers()) ? 0 : 1;
+        }
+        return fields;
+    }
+
     public static void main(String[] args) {
         Class<VanShows> type = VanShows.class;
         TreeSet<String> seen = new TreeSet<>();
@@ -56,6 +65,11 @@ public final class FaceTest {
             Check.due("field " + field.getName() + " may stand", hidden || field.getName().equals("NONE"), true);
         }
         for (Class<?> inside : type.getDeclaredClasses()) {
+            for (Method method : inside.getDeclaredMethods()) {
+                Check.due("twin of " + method.getName(), publicNames.contains(method.getName()), false);
+                Check.due(method + " has at most seven parameters", method.getParameterCount() <= 7, true);
+            }
+            Check.due("fields of " + inside.getSimpleName(), ownFields(inside) <= 20, true);
             int modifiers = inside.getModifiers();
             boolean can = Modifier.isStatic(modifiers) && !Modifier.isPublic(modifiers) && !Modifier.isProtected(modifiers);
             Check.due("class " + inside.getSimpleName() + " may stand", can, true);
