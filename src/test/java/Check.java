@@ -90,6 +90,13 @@ final class Check {
         due("place of '" + text + "'", x.fault(1), -1);
     }
 
+    /** All that ends() tells, as known by n. */
+    static void ends(VanShows x, int n, int least, int greatest, int untold) {
+        due("ends(" + n + ", 0)", x.ends(n, 0), least);
+        due("ends(" + n + ", 1)", x.ends(n, 1), greatest);
+        due("ends(" + n + ", 2)", x.ends(n, 2), untold);
+    }
+
     static String times(String part, int n) {
         return part.repeat(n);
     }

@@ -13,12 +13,6 @@ public final class ReportEdgesTest {
         return x;
     }
 
-    private static void ends(VanShows x, int n, int least, int greatest, int untold) {
-        Check.due("ends(" + n + ", 0)", x.ends(n, 0), least);
-        Check.due("ends(" + n + ", 1)", x.ends(n, 1), greatest);
-        Check.due("ends(" + n + ", 2)", x.ends(n, 2), untold);
-    }
-
     private static VanShows notes(int n) {
         VanShows x = office();
         for (int i = 0; i < n; i++) {
@@ -39,7 +33,7 @@ public final class ReportEdgesTest {
         Check.due("a 41st strike", x.strike(0), -1);
         Check.due("count", x.count(7), 40);
         // note 39 is a report of 39, the last one
-        ends(x, 40, 39, 109, 1);
+        Check.ends(x, 40, 39, 109, 1);
         Check.says("A REPORT: its NOTE's number; NONE: no such VILLAGE, NIGHT, number, or there are 40.");
         Check.range("village", 0, 1, 0, -1, n -> office().report(n, 0, 1));
         Check.range("night", 0, 3, 0, -1, n -> office().report(0, n, 1));
@@ -59,33 +53,33 @@ public final class ReportEdgesTest {
         Check.says("As KNOWN by n: the first n NOTES, without those STRUCK by one of these (a STRIKE may be STRUCK: then it doesn't"
             + " count; asked from the last one on).");
         VanShows x = office();
-        ends(x, 0, 0, 110, 2);
+        Check.ends(x, 0, 0, 110, 2);
         x.report(0, 0, 7);
-        ends(x, 0, 0, 110, 2);
-        ends(x, 1, 7, 77, 1);
+        Check.ends(x, 0, 0, 110, 2);
+        Check.ends(x, 1, 7, 77, 1);
         x.strike(0);
-        ends(x, 1, 7, 77, 1);
-        ends(x, 2, 0, 110, 2);
+        Check.ends(x, 1, 7, 77, 1);
+        Check.ends(x, 2, 0, 110, 2);
         // a chain of strikes, each of the one ahead: by turns it counts and doesn't
         for (int i = 1; i < 39; i++) {
             Check.due("strike(" + i + ")", x.strike(i), i + 1);
             boolean counts = (i + 1) % 2 == 0;
-            ends(x, i + 2, counts ? 7 : 0, counts ? 77 : 110, counts ? 1 : 2);
+            Check.ends(x, i + 2, counts ? 7 : 0, counts ? 77 : 110, counts ? 1 : 2);
         }
         Check.due("full", x.strike(39), -1);
-        ends(x, 1, 7, 77, 1);
-        ends(x, 2, 0, 110, 2);
-        ends(x, 3, 7, 77, 1);
+        Check.ends(x, 1, 7, 77, 1);
+        Check.ends(x, 2, 0, 110, 2);
+        Check.ends(x, 3, 7, 77, 1);
         // two strikes of one note: both must be struck
         VanShows y = office();
         y.report(0, 0, 7);
         y.strike(0);
         y.strike(0);
         y.strike(1);
-        ends(y, 4, 0, 110, 2);
+        Check.ends(y, 4, 0, 110, 2);
         y.strike(2);
-        ends(y, 5, 7, 77, 1);
-        ends(y, 4, 0, 110, 2);
+        Check.ends(y, 5, 7, 77, 1);
+        Check.ends(y, 4, 0, 110, 2);
     }
 
     private static void latest() {
@@ -93,19 +87,19 @@ public final class ReportEdgesTest {
             + " latest one's number; else from 0 to SEATS.");
         VanShows x = office();
         x.report(0, 0, 0);
-        ends(x, 1, 0, 70, 1);
+        Check.ends(x, 1, 0, 70, 1);
         x.report(0, 0, 500);
-        ends(x, 2, 500, 570, 1);
+        Check.ends(x, 2, 500, 570, 1);
         x.report(1, 3, 500);
-        ends(x, 3, 1000, 1000, 0);
+        Check.ends(x, 3, 1000, 1000, 0);
         x.report(0, 0, 3);
-        ends(x, 4, 503, 503, 0);
+        Check.ends(x, 4, 503, 503, 0);
         x.strike(3);
-        ends(x, 5, 1000, 1000, 0);
+        Check.ends(x, 5, 1000, 1000, 0);
         x.strike(0);
-        ends(x, 6, 1000, 1000, 0);
+        Check.ends(x, 6, 1000, 1000, 0);
         x.strike(1);
-        ends(x, 7, 500, 540, 1);
+        Check.ends(x, 7, 500, 540, 1);
         // of villages and nights without a show
         VanShows y = office();
         for (int i = 0; i < 8; i++) {
@@ -114,15 +108,15 @@ public final class ReportEdgesTest {
                 y.report(i / 4, i % 4, 100);
             }
         }
-        ends(y, 6, 0, 110, 2);
+        Check.ends(y, 6, 0, 110, 2);
         // an entry that is passed over is no show; one of a shut pass is asked for with no pass shut
         y.entry(0, 0, 0, 0);
         y.report(0, 0, 5);
-        ends(y, 7, 5, 75, 1);
+        Check.ends(y, 7, 5, 75, 1);
         y.broken(0, 1);
-        ends(y, 7, 0, 70, 1);
+        Check.ends(y, 7, 0, 70, 1);
         y.broken(0, 15);
-        ends(y, 7, 0, 0, 0);
+        Check.ends(y, 7, 0, 0, 0);
         Check.due("a row without shows", y.run(0, 2), 0);
         // a pass ahead of each show, in all nights: none of them is shut here
         for (int night = 0; night < 4; night++) {
@@ -136,7 +130,7 @@ public final class ReportEdgesTest {
                 w.van(0);
                 w.print(0, 0, 10, 0, 0, 4, 0);
                 w.entry(night, 0, village, 0);
-                ends(w, 0, 0, 10 + village, 1);
+                Check.ends(w, 0, 0, 10 + village, 1);
             }
         }
         // at all villages and in all nights, by the seats that there are then
@@ -152,10 +146,10 @@ public final class ReportEdgesTest {
         for (int i = 0; i < 8; i++) {
             z.entry(i / 2, 0, i, 0);
         }
-        ends(z, 0, 0, 1 + 7 * 500, 8);
+        Check.ends(z, 0, 0, 1 + 7 * 500, 8);
         for (int i = 0; i < 8; i++) {
             z.report(i, i / 2, 1 << i);
-            ends(z, i + 1, (2 << i) - 1, (2 << i) - 1 + (7 - i) * 500, 7 - i);
+            Check.ends(z, i + 1, (2 << i) - 1, (2 << i) - 1 + (7 - i) * 500, 7 - i);
         }
     }
 
@@ -179,7 +173,7 @@ public final class ReportEdgesTest {
         VanShows x = office();
         x.report(0, 0, 0);
         x.report(1, 3, 0);
-        ends(x, 2, 0, 0, 0);
+        Check.ends(x, 2, 0, 0, 0);
     }
 
     public static void main(String[] args) {

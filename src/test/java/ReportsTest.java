@@ -13,39 +13,33 @@ public final class ReportsTest {
         return x;
     }
 
-    private static void ends(VanShows x, int n, int least, int greatest, int untold) {
-        Check.due("ends(" + n + ", 0)", x.ends(n, 0), least);
-        Check.due("ends(" + n + ", 1)", x.ends(n, 1), greatest);
-        Check.due("ends(" + n + ", 2)", x.ends(n, 2), untold);
-    }
-
     private static void known() {
         VanShows x = office();
-        ends(x, 0, 0, 110, 2);
+        Check.ends(x, 0, 0, 110, 2);
         Check.due("report", x.report(0, 0, 500), 0);
         Check.due("of a night without a show", x.report(0, 1, 9), 1);
         Check.due("report", x.report(0, 0, 20), 2);
         Check.due("report", x.report(1, 1, 0), 3);
-        ends(x, 1, 500, 570, 1);
-        ends(x, 2, 500, 570, 1);
-        ends(x, 3, 20, 90, 1);
-        ends(x, 4, 20, 20, 0);
+        Check.ends(x, 1, 500, 570, 1);
+        Check.ends(x, 2, 500, 570, 1);
+        Check.ends(x, 3, 20, 90, 1);
+        Check.ends(x, 4, 20, 20, 0);
         Check.due("strike", x.strike(2), 4);
-        ends(x, 5, 500, 500, 0);
+        Check.ends(x, 5, 500, 500, 0);
         Check.due("strike of the strike", x.strike(4), 5);
-        ends(x, 6, 20, 20, 0);
+        Check.ends(x, 6, 20, 20, 0);
         Check.due("strike of that", x.strike(5), 6);
-        ends(x, 7, 500, 500, 0);
+        Check.ends(x, 7, 500, 500, 0);
         Check.due("strike", x.strike(0), 7);
-        ends(x, 8, 0, 40, 1);
+        Check.ends(x, 8, 0, 40, 1);
         Check.due("a second strike of one note", x.strike(0), 8);
         Check.due("the first is struck", x.strike(7), 9);
-        ends(x, 10, 0, 40, 1);
+        Check.ends(x, 10, 0, 40, 1);
         Check.due("the second too", x.strike(8), 10);
-        ends(x, 11, 500, 500, 0);
-        ends(x, 4, 20, 20, 0);
+        Check.ends(x, 11, 500, 500, 0);
+        Check.ends(x, 4, 20, 20, 0);
         x.clear(-1);
-        ends(x, 11, 0, 0, 0);
+        Check.ends(x, 11, 0, 0, 0);
     }
 
     private static void wrong() {
@@ -68,7 +62,7 @@ public final class ReportsTest {
         Check.due("ends(-1, 0)", x.ends(-1, 0), -1);
         Check.due("ends(0, 3)", x.ends(0, 3), -1);
         Check.due("ends(0, -1)", x.ends(0, -1), -1);
-        ends(x, 40, 73, 73, 0);
+        Check.ends(x, 40, 73, 73, 0);
     }
 
     public static void main(String[] args) {
