@@ -56,17 +56,17 @@ final class Check {
         }
     }
 
-    static void feedText(VanShows x, String text) {
+    static void feedText(VanShows office, String text) {
         byte[] bytes = text.getBytes(StandardCharsets.ISO_8859_1);
         for (int i = 0; i < bytes.length; i += 20) {
-            x.feed(four(bytes, i), four(bytes, i + 4), four(bytes, i + 8), four(bytes, i + 12), four(bytes, i + 16));
+            office.feed(four(bytes, i), four(bytes, i + 4), four(bytes, i + 8), four(bytes, i + 12), four(bytes, i + 16));
         }
     }
 
     static int four(byte[] bytes, int from) {
         int number = 0;
         for (int i = from; i < from + 4; i++) {
-            number = number << 8 | (i < bytes.length ? bytes[i] & 255 : 32);
+            number = number << 8 | (i < bytes.length ? bytes[i] & 255 : ' ');
         }
         return number;
     }

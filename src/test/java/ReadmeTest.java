@@ -63,9 +63,23 @@ public final class ReadmeTest {
         }
     }
 
+    /** The two methods that put a text on the tape are those that all tests use. */
+    private static void helpers(String readme) throws IOException {
+        String check = Files.readString(Path.of("src/test/java/Check.java"));
+        String[] heads = {"    static void feedText(", "    static int four("};
+        for (String head : heads) {
+            int from = check.indexOf(head);
+            int to = check.indexOf("\n    }\n", Math.max(from, 0));
+            boolean shown = from >= 0 && to > from && readme.contains(check.substring(from, to));
+            Check.due("README.md has" + head + "..) as Check has it", shown, true);
+        }
+    }
+
     public static void main(String[] args) throws IOException, IllegalAccessException, InvocationTargetException {
         ReadmeTest test = new ReadmeTest();
-        Matcher blocks = BLOCK.matcher(Files.readString(Path.of("README.md")));
+        String readme = Files.readString(Path.of("README.md"));
+        helpers(readme);
+        Matcher blocks = BLOCK.matcher(readme);
         while (blocks.find()) {
             for (String line : blocks.group(1).split("\n")) {
                 test.go(line);
